@@ -1024,11 +1024,11 @@ public final class BondCalendars {
             }
         }
 
-        double distanceAt(double yield) {
+        double distanceAt(double y) {
             double sum = 0.0;
             for (int i = 0; i < quoteCount && i < quoted.length; i++) {
                 double price = quotedPrices[i] / 100.0;
-                double clean = quoted[i].cleanAt(yield);
+                double clean = quoted[i].cleanAt(y);
                 sum = sum + (clean >= price ? clean - price : price - clean);
             }
             return sum;
@@ -1423,16 +1423,16 @@ public final class BondCalendars {
             restRatio.multiply(of.rate, 100);
         }
 
-        double dirtyAt(double yield) {
+        double dirtyAt(double y) {
             if (bond == null) {
                 return 0.0;
             }
-            double growth = 1.0 + yield * restOfPeriod;
+            double growth = 1.0 + y * restOfPeriod;
             double sum = 0.0;
             int last = bond.periods - 1;
             for (int k = current; k >= 0 && k <= last && k < Bond.MOST_PERIODS; k++) {
                 if (k > current) {
-                    growth = growth * (1.0 + yield * bond.fractions[k]);
+                    growth = growth * (1.0 + y * bond.fractions[k]);
                 }
                 double paid = ex && k == current ? 0.0 : bond.coupons[k];
                 if (k == last) {
@@ -1443,8 +1443,8 @@ public final class BondCalendars {
             return sum;
         }
 
-        double cleanAt(double yield) {
-            return dirtyAt(yield) - accruedValue;
+        double cleanAt(double y) {
+            return dirtyAt(y) - accruedValue;
         }
     }
 

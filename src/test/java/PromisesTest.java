@@ -33,6 +33,7 @@ public final class PromisesTest {
         prices();
         brackets();
         quotes();
+        fortyTimes();
         holdings();
         deals();
         daysGoBy();
@@ -192,6 +193,9 @@ public final class PromisesTest {
         fault("Desk from 20000101 cash 0", 1, 0);
         fault(";desk from 20000101 cash 0", 1, 0);
         fault("foo", 1, 0);
+        fault("tesk from 20000101 cash 0", 1, 0);
+        fault("desk prom 20000101 cash 0", 1, 5);
+        fault("desk from 20000101 cast 0", 1, 19);
         fault("20000101", 1, 0);
         fault("deskfrom 20000101 cash 0", 1, 0);
         fault("desk cash", 1, 5);
@@ -391,6 +395,10 @@ public final class PromisesTest {
         due("eom of no month's end, leap", x.grid(0, -4), 20200228);
         due("eom is told all the same", x.bond(0, 6), 1);
         due("RULE euro", x.bond(0, 2), 1);
+        tell(x, "desk from 20000101 cash 0;bond 1 per 1 euro eom mature 19880229 issue 19800101;"
+                + "bond 1 per 1 euro mature 19880301 issue 19800101");
+        due("1900 has no leap day", x.grid(0, -88), 19000228);
+        due("the day behind", x.grid(1, -88), 19000301);
         tell(x, "desk from 20000101 cash 0;bond 1 per 4 euro mature 20050101 issue 19850101");
         due("80 PERIODS", x.bond(0, 8), 80);
         tell(x, "desk from 20000101 cash 0;bond 1 per 4 euro mature 20050102 last 20050101 issue 19850101");
@@ -561,6 +569,24 @@ public final class PromisesTest {
         due(x, "bracket, too dear", x.bracket(3, 20240101, 99999, 0, true), Long.MIN_VALUE, 5);
         due(x, "bracket, too cheap", x.bracket(3, 20240101, 1, 0, true), Long.MIN_VALUE, 5);
         narrowsAndPoints(x);
+        timeless();
+    }
+
+    /** From day 30 to day 31 no time goes by the thirty rule: the price is 100 at every yield. */
+    private static void timeless() {
+        BondCalendars x = new BondCalendars();
+        tell(x, "desk from 20230101 cash 0;bond 100 per 1 thirty mature 20230131 issue 20230130");
+        due("dirty", x.dirty(0, 20230130, 10000), 100.0);
+        due("risk", x.risk(0, 20230130, 0), 0.0);
+        double middle = (-0.2 + 1.0) / 2.0;
+        due("it HOLDS by being equal; LOW, once", x.bracket(0, 20230130, 10000, 1, false), middle);
+        due("LOW, twice, by no secant", x.bracket(0, 20230130, 10000, 2, false), (middle + 1.0) / 2.0);
+        due("HIGH, twice", x.bracket(0, 20230130, 10000, 2, true), 1.0);
+        due(x, "narrows by halves", x.narrows(0, 20230130, 10000), 21, 0);
+        due(x, "doesn't HOLD by one more", x.bracket(0, 20230130, 10001, 1, false), Long.MIN_VALUE, 5);
+        due(x, "doesn't HOLD by one less", x.narrows(0, 20230130, 9999), -1, 5);
+        due(x, "pointsAt by being equal", x.pointsAt(0, 20230130, 10000), 10000, 0);
+        due(x, "pointsAt none", x.pointsAt(0, 20230130, 10001), Integer.MIN_VALUE, 0);
     }
 
     private static void narrowsAndPoints(BondCalendars x) {
@@ -638,8 +664,21 @@ public final class PromisesTest {
         due("flat at the lowest", x.flat(), 0);
         tell(x, "desk from 20230101 cash 0;bond 0 per 1 money mature 20231227 issue 20230101;quote 0 20230101 9524");
         due("flat between", x.flat(), 500);
+        tell(x, "desk from 20230101 cash 0;bond 0 per 1 money mature 20231227 issue 20230101;quote 0 20230101 9999");
+        due("flat next to the lowest", x.flat(), 1);
         tell(x, "desk from 20230101 cash 0;bond 0 per 1 thirty mature 20230131 issue 20230130;quote 0 20230130 9524");
         due("flat of a bond of no time is the least", x.flat(), 0);
+    }
+
+    /** Quotes at par that the fortieth time, neither one less nor one more, puts in this order. */
+    private static void fortyTimes() {
+        BondCalendars x = new BondCalendars();
+        tell(x, "desk from 20000101 cash 0;bond 1568 per 2 actual mature 20320601 issue 20000101;"
+                + "quote 0 20091201 10000;quote 0 20180601 10000");
+        due("cheapest by not 39 times", x.cheapest(), 1);
+        tell(x, "desk from 20000101 cash 0;bond 508 per 1 actual mature 20490309 issue 20000101;"
+                + "quote 0 20090309 10000;quote 0 20170309 10000");
+        due("cheapest by not 41 times", x.cheapest(), 1);
     }
 
     private static int bestOf(String text) {
@@ -687,6 +726,11 @@ public final class PromisesTest {
         }
         due("periods of bond 2", x.bond(2, 8), 2);
         due("worth at 10,000", x.worth(10000), 0.0 + 48801.0 + 2 * v + 10 * priceOf3(1.0));
+        for (int cash : new int[] {25, 50, 100, 200, 12800, 26214400}) {
+            BondCalendars y = new BondCalendars();
+            tell(y, "desk from 20000101 cash " + cash);
+            due("worth of a power of two", y.worth(0), cash / 100.0);
+        }
         due("go to mature of bond 2", x.go(181), 0);
         due("at it", x.now(), 20240630);
         due("it is held till PAY", x.holding(2), 2);
