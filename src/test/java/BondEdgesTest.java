@@ -1,3 +1,5 @@
+import java.time.LocalDate;
+
 /** Term II, the calendar of a bond, sentence by sentence; promises 12 to 18, and the LINE of Term IV. */
 public final class BondEdgesTest extends Edges {
     private static final String DESK = "desk from 20000101 cash 0";
@@ -68,6 +70,7 @@ public final class BondEdgesTest extends Edges {
                     20040229, 20040531, 20040831, 20041130, 20050228, 20050531, 20050831, 20051130, 20060228);
             gridIs(bond("1 per 1 euro mature 20040229 issue 20000101"), -5,
                     19990228, 20000229, 20010228, 20020228, 20030228, 20040229, 20050228, 20060228, 20070228);
+            everyAnchor();
         });
         edge("II", "by eom, if the ANCHOR is the last day of its month, each is the last day of its month.", () -> {
             gridIs(bond("1 per 4 euro eom mature 20050228 issue 20000101"), -4,
@@ -82,6 +85,23 @@ public final class BondEdgesTest extends Edges {
             gridIs(bond("1 per 2 euro eom mature 20050731 last 20050630 issue 20000101"), -1, 20041231, 20050630, 20051231);
             gridIs(bond("1 per 2 euro eom mature 20050731 last 20050629 issue 20000101"), -1, 20041229, 20050629, 20051229);
         });
+    }
+
+    /** From each day of some years, as far as the GRID goes, by the calendar of the Java library. */
+    private static void everyAnchor() {
+        for (int year : new int[] {1980, 1990, 2079}) {
+            for (LocalDate anchor = LocalDate.of(year, 1, 2); anchor.getYear() == year; anchor = anchor.plusDays(1)) {
+                int f = 1 << anchor.getDayOfYear() % 3;
+                BondCalendars x = bond("1 per " + f + " euro mature " + number(anchor) + " issue " + number(anchor.minusDays(1)));
+                for (int k = -90; k <= 3; k++) {
+                    due("grid " + k + " from " + anchor, x.grid(0, k), number(anchor.plusMonths(k * 12 / f)));
+                }
+            }
+        }
+    }
+
+    private static int number(LocalDate date) {
+        return date.getYear() * 10000 + date.getMonthValue() * 100 + date.getDayOfMonth();
     }
 
     private static void couponTerms() {
@@ -192,6 +212,10 @@ public final class BondEdgesTest extends Edges {
             lineIs(bond("0 per 2 euro mature 20051231 issue 20050701"), 0, "2005-12-31 0/1");
             lineIs(bond("2000 per 1 euro mature 20791009 issue 20781009"), 0, "2079-10-09 20/1");
             lineIs(bond("1 per 1 fixed mature 19800102 issue 19800101"), 0, "1980-01-02 1/36500");
+            lineIs(bond("900 per 1 euro mature 20051110 issue 20041110"), 0, "2005-11-10 9/1");
+            lineIs(bond("1000 per 1 euro mature 20051110 issue 20041110"), 0, "2005-11-10 10/1");
+            lineIs(bond("1980 per 2 euro mature 20050909 issue 20050309"), 0, "2005-09-09 99/10");
+            lineIs(bond("99 per 1 euro mature 20051110 issue 20041110"), 0, "2005-11-10 99/100");
             // 90 of four times 91 days, and a half.
             lineIs(bond("1999 per 4 actual mature 20010101 issue 20000402 first 20010101"), 0, "2001-01-01 33983/2275");
             // The longest: 1095 by 365 times 19.99, a day less than that.
@@ -344,6 +368,17 @@ public final class BondEdgesTest extends Edges {
         due("ENTITLED", x.period(0, 0, 6), 12);
         due("not to the next", x.period(0, 1, 6), 0);
         due("not to another bond's", x.period(1, 0, 6), 0);
+        String most = ";bond 1 per 4 euro mature 20050103 last 20050101 issue 19850101";
+        x = of("desk from 20041231 cash 0" + most + most + most + most);
+        for (int b = 0; b < 4; b++) {
+            x.deal(b, 11 + b, 1);
+        }
+        x.go(3);
+        for (int b = 0; b < 4; b++) {
+            due("ENTITLED to the first of 81 of bond " + b, x.period(b, 0, 6), 0);
+            due("ENTITLED to the last but one of 81 of bond " + b, x.period(b, 79, 6), 11 + b);
+            due("ENTITLED to the last of 81 of bond " + b, x.period(b, 80, 6), 11 + b);
+        }
     }
 
     private static void fraction() {

@@ -106,6 +106,13 @@ public final class DateEdgesTest extends Edges {
         });
         edge("II", "n BUSINESS DAYS from a DATE: going on from it (or back, if n is below 0) till that many were met (not itself; n 0: itself).", () -> {
             BondCalendars x = new BondCalendars();
+            Supply supply = new Supply();
+            for (LocalDate date = EARLIEST; !date.isAfter(LATEST); date = date.plusDays(1)) {
+                int weekday = date.getDayOfWeek().getValue();
+                int later = weekday == 5 ? 3 : weekday == 6 ? 2 : 1;
+                due("0 from " + date, supply.next().businessFrom(number(date), 0), number(date));
+                due("1 from " + date, supply.next().businessFrom(number(date), 1), number(date.plusDays(later)));
+            }
             due("0 from a Saturday", x.businessFrom(20000101, 0), 20000101);
             due("0 from a Monday", x.businessFrom(20000103, 0), 20000103);
             due("1 from a Saturday", x.businessFrom(20000101, 1), 20000103);

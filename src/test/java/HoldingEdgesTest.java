@@ -111,6 +111,7 @@ public final class HoldingEdgesTest extends Edges {
                 due("go(1)", x.go(1), 0);
                 due("NOW", x.now(), next[1]);
             }
+            everyDay();
             // Two bonds, each with its own: 0.75 and 0.75 hundredths are none and none.
             String small = ";bond 1 per 4 euro mature 20000403 issue 20000103";
             BondCalendars x = of("desk from 20000103 cash 0" + small + small);
@@ -124,6 +125,19 @@ public final class HoldingEdgesTest extends Edges {
             due("it is held no more", y.holding(0), 0);
             due("the other is", y.holding(1), 2);
         });
+    }
+
+    /** All days from the earliest DATE to the latest, one by one. */
+    private static void everyDay() {
+        LocalDate date = LocalDate.of(1980, 1, 1);
+        while (date.getYear() < 2080) {
+            BondCalendars x = of("desk from " + number(date.getYear(), date.getMonthValue(), date.getDayOfMonth()) + " cash 0");
+            for (int i = 0; i < 240 && date.getYear() < 2080; i++) {
+                due("NOW", x.now(), date.getYear() * 10000 + date.getMonthValue() * 100 + date.getDayOfMonth());
+                x.go(1);
+                date = date.plusDays(1);
+            }
+        }
     }
 
     private static void exTerm() {

@@ -107,6 +107,10 @@ public final class QuoteEdgesTest extends Edges {
             due("flat", x.flat(), 500);
             tell(x, YEAR + QUOTE + "9999");
             due("flat anew", x.flat(), 1);
+            tell(x, YEAR + QUOTE + "9998");
+            due("flat anew, again", x.flat(), 2);
+            tell(x, YEAR + QUOTE + "9999");
+            due("flat anew, once more", x.flat(), 1);
             tell(x, YEAR + QUOTE);
             due("flat behind a FAULT", x.flat(), 1);
             x.go(400);

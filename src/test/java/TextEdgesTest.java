@@ -1,6 +1,8 @@
 import java.util.ArrayList;
 import java.util.Arrays;
 import java.util.List;
+import java.util.regex.Matcher;
+import java.util.regex.Pattern;
 
 /** Term I, the text of a DESK and its FAULTS, sentence by sentence; promises 1 to 5. In texts, ^ marks a FAULT's place. */
 public final class TextEdgesTest extends Edges {
@@ -43,6 +45,10 @@ public final class TextEdgesTest extends Edges {
             String last = DESK + " ".repeat(899 - DESK.length());
             fault(last + "#", 1, 899);
             fine(" ".repeat(900 - DESK.length()) + DESK, 0);
+            // A WORD, a WHOLE up to the very last byte.
+            fault(DESK + " ".repeat(895 - DESK.length()) + ";desk", 3, 896);
+            fault(DESK + " ".repeat(895 - DESK.length()) + ";bond", 1, 900);
+            fault("desk from 20000101 cash" + " ".repeat(868) + "123456789", 1, 891);
             fault(" ".repeat(900), 1, 900);
         });
     }
@@ -275,6 +281,14 @@ public final class TextEdgesTest extends Edges {
                 ahead.append(token[0]).append(' ');
             }
             fine(ahead.toString(), 1);
+            String text = ahead.toString();
+            for (Matcher word = Pattern.compile("[a-z]+").matcher(text); word.find();) {
+                for (int at = word.start(); at < word.end(); at++) {
+                    char other = text.charAt(at) == 'z' ? 'a' : (char) (text.charAt(at) + 1);
+                    fault(text.substring(0, at) + other + text.substring(at + 1), 1, word.start());
+                    fault(text.substring(0, at) + text.substring(at + 1), 1, word.start());
+                }
+            }
         });
     }
 
@@ -295,6 +309,7 @@ public final class TextEdgesTest extends Edges {
             faultAt(PER + "^3", 2);
             faultAt(ISSUE + "20000110 ex ^11", 2);
             faultAt(DESK + BOND + ";quote ^1", 2);
+            faultAt(DESK + BOND + ";quote ^20000110 20000110 1", 2);
             faultAt(DESK + BOND + ";quote 0 20000110 ^0", 2);
         });
     }
@@ -572,6 +587,7 @@ public final class TextEdgesTest extends Edges {
             due("no HOLIDAY", x.size(2), 0);
             due("a BUSINESS DAY that was a HOLIDAY", x.business(20000103), 1);
             due("all of THE TAPE", tell(x, DESK + "               "), 0);
+            behindOthers();
         });
         edge("3", "NONE: 2 (THE TAPE stays);", () -> {
             BondCalendars x = new BondCalendars();
@@ -623,6 +639,52 @@ public final class TextEdgesTest extends Edges {
             due("NOW as kept", x.now(), 20000110);
             due(x, "desk(0): an empty text", x.desk(0), -1, 4);
         });
+    }
+
+    /** What a DESK tells has nothing of those before it, though they had more of everything. */
+    private static void behindOthers() {
+        String long81 = ";bond 2000 per 4 fixed eom mature 20050102 last 20050101 issue 19850101 ex 10";
+        StringBuilder big = new StringBuilder("desk from 19990101 cash 99999999" + long81 + long81 + long81 + long81);
+        for (int i = 0; i < 10; i++) {
+            big.append(i < 6 ? ";quote 3 20000110 1" : "").append(";holiday ").append(20000110 + i);
+        }
+        String small = "desk from 20000109 cash 7;holiday 20000112" + BOND + ";quote 0 20000110 9000";
+        BondCalendars old = new BondCalendars();
+        for (int i = 0; i < 4; i++) {
+            due("a big DESK", tell(old, big.toString()), 4);
+            for (int b = 0; b < 4; b++) {
+                old.deal(b, 99, 1);
+            }
+            old.go(4000);
+            old.flat();
+            old.keep();
+        }
+        due("the small DESK", tell(old, small), 1);
+        same(old, of(small));
+        due("a bond more", tell(old, small + BOND), 2);
+        same(old, of(small + BOND));
+    }
+
+    private static void same(BondCalendars old, BondCalendars fresh) {
+        for (int what = 0; what < 9; what++) {
+            due("size", old.size(what), fresh.size(what));
+            due("bond", old.bond(0, what), fresh.bond(0, what));
+            due("quote", old.quote(what, 0), fresh.quote(what, 0));
+            for (int k = 0; k < 12; k++) {
+                due("period", old.period(0, k, what), fresh.period(0, k, what));
+            }
+        }
+        due("flat", old.flat(), fresh.flat());
+        due("off", old.off(7), fresh.off(7));
+        due("cheapest", old.cheapest(), fresh.cheapest());
+        due("dirty", old.dirty(0, 20000110, 7), fresh.dirty(0, 20000110, 7));
+        due("go", old.go(1), fresh.go(1));
+        due("deal", old.deal(0, 10, 100), fresh.deal(0, 10, 100));
+        due("worth", old.worth(7), fresh.worth(7));
+        due("go on", old.go(1000), fresh.go(1000));
+        due("worth", old.worth(7), fresh.worth(7));
+        due("go to the end", old.go(4000), fresh.go(4000));
+        due("cash", old.cash(), fresh.cash());
     }
 
     private static void faultAndWhere() {
