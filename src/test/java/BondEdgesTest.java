@@ -91,12 +91,17 @@ public final class BondEdgesTest extends Edges {
     private static void everyAnchor() {
         for (int year : new int[] {1980, 1990, 2079}) {
             for (LocalDate anchor = LocalDate.of(year, 1, 2); anchor.getYear() == year; anchor = anchor.plusDays(1)) {
-                int f = 1 << anchor.getDayOfYear() % 3;
-                BondCalendars x = bond("1 per " + f + " euro mature " + number(anchor) + " issue " + number(anchor.minusDays(1)));
-                for (int k = -90; k <= 3; k++) {
-                    due("grid " + k + " from " + anchor, x.grid(0, k), number(anchor.plusMonths(k * 12 / f)));
+                for (int f = 1; f <= 4; f *= 2) {
+                    gridFrom(anchor, f);
                 }
             }
+        }
+    }
+
+    private static void gridFrom(LocalDate anchor, int f) {
+        BondCalendars x = bond("1 per " + f + " euro mature " + number(anchor) + " issue " + number(anchor.minusDays(1)));
+        for (int k = -90; k <= 3; k++) {
+            due("grid " + k + " from " + anchor, x.grid(0, k), number(anchor.plusMonths(k * 12 / f)));
         }
     }
 
